@@ -16,12 +16,6 @@ final class Due {
         }
     }
 
-    void fault(String what) {
-        asked++;
-        wrong++;
-        System.out.println(test + ": " + what);
-    }
-
     void holds(String what, boolean so) {
         asked++;
         if (!so) {

@@ -64,6 +64,8 @@ public final class HouseTest {
         due.is("2 the day stays", x.count(1), 99);
         due.is("2 the image stays", x.from(1), 1);
         due.is("2 what it kept", x.count(0), 2);
+        x.buy(0);
+        x.lock(0);
         x.house(7);
         x.deputy(0, 0, 0, 0);
         due.is("2 nobody is bought at first", x.of(0, 5), 0);
@@ -199,6 +201,7 @@ public final class HouseTest {
         fault("house 5 ", 8);
         fault("hous", 0);
         fault("houses 5;", 0);
+        fault("mouse 5;", 0);
         fault("  House 5;", 2);
         fault("houSe 5;", 0);
         fault("deputy 0 0;", 0);
@@ -223,6 +226,7 @@ public final class HouseTest {
         fault("house 1;deputy 5;", 16);
         fault("house 1;deputy 5 1 1;", 19);
         fault("house 1;deputy 5 1", 18);
+        fault("house 1;love", 12);
         fault("house 1;love 0 1;", 13);
         fault("house 1;deputy 0 0;love 1;", 24);
         fault("house 1;deputy 0 0;hate;", 23);

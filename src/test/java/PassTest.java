@@ -250,6 +250,7 @@ public final class PassTest {
         due.is("22 beyond", x.gone(2), -2);
         VetoHouse none = new VetoHouse();
         due.is("22 BAD goes ahead of none", none.gone(2), -2);
+        due.is("22 status", Due.refused(none), 10000);
         none.deputy(0, 255, 0, 0);
         none.deputy(0, 255, 0, 0);
         due.is("22 nobody stops anything", none.gone(0), 0);

@@ -57,6 +57,7 @@ public final class ThereTest {
         x.deputy(2, 1, 4, 6);
         x.deputy(3, 2, 8, 7);
         x.note(1, 9, 8, 1);
+        x.note(0, 7, 6, 0);
         x.moves(16);
         x.end();
         x.moves(32);
@@ -68,7 +69,9 @@ public final class ThereTest {
         x.image(0);
         x.end();
         x.deputy(0, 0, 0, 0);
-        x.note(0, 1, 1, 1);
+        x.forget();
+        x.note(2, 1, 1, 0);
+        x.note(2, 1, 1, 1);
         x.type('i');
         x.clear();
         x.type('j');
@@ -80,6 +83,7 @@ public final class ThereTest {
             x.undo();
         }
         due.is("32 all of it", x.count(1), 3);
+        due.is("32 as ahead of all", x.acts(0), 0);
         due.is("32 and no more", x.undo(), -3);
         due.is("32 once more", x.from(0), 1);
         due.is("32 an image stays", x.digest(), kept);
