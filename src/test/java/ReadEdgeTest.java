@@ -1,6 +1,11 @@
 /** Promise 6 at its boundaries: read. */
 public final class ReadEdgeTest {
     private static final String DEPUTIES_6 = "house 1;" + "deputy 0 0;".repeat(6);
+    private static final String[] EARLY = {"", " ", "house", "house ", "house 1", "house 1 ", "house 12",
+        "house 1;deputy", "house 1;deputy ", "house 1;deputy 0", "house 1;deputy 0 ", "house 1;deputy 0 0",
+        "house 1;deputy 0 0;love", "house 1;deputy 0 0;love 0", "house 1;deputy 0 0;love 0 7",
+        "house 1;deputy 0 0;love 0 7 ", "house 1;deputy 0 0;hate", "house 1;deputy 0 0;hate 0",
+        "house 1;deputy 0 0;hate 0 7", "house 1;law", "house 1;law ", "house 1;law 7"};
     private static final Edge edge = new Edge("ReadEdgeTest");
 
     public static void main(String[] args) {
@@ -15,6 +20,7 @@ public final class ReadEdgeTest {
         houseOnceFirstOfAll();
         wordsThatAreNone();
         endsTooEarly();
+        endsWhereBytesWereCleared();
         everyByteAheadOfAll();
         everyByteBehindANumber();
         everyByteBehindAnItem();
@@ -205,12 +211,7 @@ public final class ReadEdgeTest {
     }
 
     private static void endsTooEarly() {
-        String[] early = {"", " ", "house", "house ", "house 1", "house 1 ", "house 12", "house 1;deputy",
-            "house 1;deputy ", "house 1;deputy 0", "house 1;deputy 0 ", "house 1;deputy 0 0", "house 1;deputy 0 0;love",
-            "house 1;deputy 0 0;love 0", "house 1;deputy 0 0;love 0 7", "house 1;deputy 0 0;love 0 7 ",
-            "house 1;deputy 0 0;hate", "house 1;deputy 0 0;hate 0", "house 1;deputy 0 0;hate 0 7", "house 1;law",
-            "house 1;law ", "house 1;law 7"};
-        for (String text : early) {
+        for (String text : EARLY) {
             fault(text, text.length());
         }
         edge.tells("6 an empty one of a new object", Houses::fresh, x -> x.read(), -10);
@@ -219,6 +220,24 @@ public final class ReadEdgeTest {
             x.clear();
             return x;
         }, x -> x.read(), -10);
+    }
+
+    /** Bytes that were cleared are not read, whatever they were. */
+    private static void endsWhereBytesWereCleared() {
+        for (char old : new char[] {' ', ';', '0', 'e', 's', 127}) {
+            for (String text : EARLY) {
+                edge.does("6 \"" + text + "\" over cleared bytes " + (int) old, () -> cleared(old, text),
+                    x -> x.read(), -10 - text.length());
+            }
+            edge.does("6 a whole text over cleared bytes " + (int) old, () -> cleared(old, "house 1;"),
+                x -> x.read(), 1);
+        }
+    }
+
+    private static VetoHouse cleared(char old, String text) {
+        VetoHouse x = Houses.type(Houses.fresh(), String.valueOf(old).repeat(150));
+        x.clear();
+        return Houses.type(x, text);
     }
 
     private static VetoHouse typed(String ahead, int c, String behind) {

@@ -234,6 +234,7 @@ public final class StoppedEdgeTest {
             x -> x.tryNext(0), 128);
         // Law 0 with 7: plain, proud, poor, kept against timid, late.
         edge.tells("27 four against two", one(1, PLAIN, 1, 128), x -> x.tryNext(0), 129);
+        edge.tells("27 the last two laws alone part them so", one(0, PLAIN, 64, 128), x -> x.tryNext(0), 192);
         // Three loved laws with two hated: proud, kept against four, too, but it is no better.
         edge.tells("27 of like ones the least", one(1, PLAIN, 7, 192), x -> x.tryNext(0), 65);
         edge.tells("27 one who is bought", and(one(1, PLAIN, 0, 128), x -> x.buy(0)), x -> x.tryNext(0), 128);

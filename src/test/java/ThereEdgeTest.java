@@ -14,6 +14,7 @@ public final class ThereEdgeTest {
         promise31ImagesOfTheLeastAndTheMost();
         promise32Images();
         promise32WhatIsKept();
+        promise32Notes();
         promise32WhatIsNotKept();
         promise33Status();
         promise33EachReason();
@@ -143,6 +144,23 @@ public final class ThereEdgeTest {
         x.house(0);
         x.from(0);
         edge.is("32 an image of an image", x.count(4), 70);
+    }
+
+    /** Each field of each note, which are otherwise behind it. */
+    private static void promise32Notes() {
+        VetoHouse x = Houses.crowded();
+        x.image(0);
+        long kept = x.digest();
+        x.forget();
+        for (int i = 0; i < 6; i++) {
+            x.note(5 - i, 20 + i, 90 - i, 1 - i % 2);
+        }
+        long others = x.digest();
+        x.image(1);
+        x.from(0);
+        edge.is("32 the notes of image 0", x.digest(), kept);
+        x.from(1);
+        edge.is("32 the notes of image 1", x.digest(), others);
     }
 
     private static void promise32WhatIsNotKept() {
