@@ -1,11 +1,28 @@
 /** Prints every answer that is not the one that is due, and ends a test with exit code 1 if there was one. */
 final class Due {
+    private static final int SECONDS = 300;
+
     private final String test;
     private int asked = 0;
     private int wrong = 0;
 
     Due(String test) {
         this.test = test;
+        Thread watch = new Thread(this::giveUp);
+        watch.setDaemon(true);
+        watch.start();
+    }
+
+    /** A call that fails to end fails the test, too. */
+    private void giveUp() {
+        try {
+            Thread.sleep(SECONDS * 1000L);
+        } catch (InterruptedException e) {
+            return;
+        }
+        System.out.println(test + ": it did not end within " + SECONDS + " seconds");
+        System.out.flush();
+        Runtime.getRuntime().halt(1);
     }
 
     void is(String call, long got, long want) {

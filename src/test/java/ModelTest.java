@@ -1,5 +1,7 @@
+import java.util.ArrayList;
 import java.util.Arrays;
 import java.util.LinkedHashMap;
+import java.util.List;
 import java.util.Map;
 import java.util.Random;
 
@@ -7,6 +9,7 @@ import java.util.Random;
 public final class ModelTest {
     private static final int RUNS = 400;
     private static final int CALLS = 512;
+    private static final int LAST = 2 + 3 * 19;
     private static final Due due = new Due("ModelTest");
 
     /** Each call with what its arguments may be at most (from 0); in the order of the face. */
@@ -62,11 +65,12 @@ public final class ModelTest {
         Random random = new Random(run);
         VetoHouse x = new VetoHouse();
         Model model = new Model();
+        String[] names = run % 2 == 0 ? NAMES : half(random);
         int calls = 0;
-        while (calls < CALLS - 1) {
-            String name = NAMES[random.nextInt(NAMES.length)];
+        while (calls < CALLS - LAST) {
+            String name = names[random.nextInt(names.length)];
             String text = name.equals("read") && random.nextBoolean() ? someText(random) : "";
-            if (!text.isEmpty() && calls + text.length() + 2 < CALLS) {
+            if (!text.isEmpty() && calls + text.length() + 2 < CALLS - LAST) {
                 same(run, "clear", new int[] {}, x, model);
                 for (int i = 0; i < text.length(); i++) {
                     same(run, "type", new int[] {text.charAt(i)}, x, model);
@@ -78,7 +82,31 @@ public final class ModelTest {
                 calls++;
             }
         }
+        backwards(run, x, model);
+        for (int image = 0; image < 2; image++) {
+            same(run, "from", new int[] {image}, x, model);
+            backwards(run, x, model);
+        }
+    }
+
+    /** What may be undone is seen by undoing alone. */
+    private static void backwards(int run, VetoHouse x, Model model) {
         same(run, "digest", new int[] {}, x, model);
+        for (int i = 0; i < 9; i++) {
+            same(run, "undo", new int[] {}, x, model);
+            same(run, "digest", new int[] {}, x, model);
+        }
+    }
+
+    /** Some calls alone: without those that begin anew a run comes to states that it else would not. */
+    private static String[] half(Random random) {
+        List<String> some = new ArrayList<>(List.of("deputy", "moves", "digest"));
+        for (String name : NAMES) {
+            if (random.nextBoolean()) {
+                some.add(name);
+            }
+        }
+        return some.toArray(new String[0]);
     }
 
     /** Houses and notes are kept for some time, else no run comes to full ones. */

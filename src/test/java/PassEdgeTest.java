@@ -242,6 +242,8 @@ public final class PassEdgeTest {
         edge.tells("18 the other part is stopped", one(1, PROUD, 0, 2), x -> x.tied(3), NONE);
         edge.tells("18 together they pass, ..", one(1, PLAIN, 3, 4), x -> x.stops(7), 0);
         edge.tells("18 .. in two parts they do not", one(1, PLAIN, 3, 4), x -> x.tied(7), NONE);
+        edge.tells("18 the rest of each part that passes is stopped", one(1, PLAIN, 6, 9), x -> x.tied(15), NONE);
+        edge.tells("18 the least law passes, no part of more does", one(1, PLAIN, 0, 2), x -> x.tied(7), NONE);
         edge.tells("18 all is stopped", one(0, KEPT, 255, 0), x -> x.tied(255), NONE);
     }
 

@@ -20,6 +20,7 @@ public final class StoppedEdgeTest {
         promise25EveryNote();
         promise26DeputiesAndLaws();
         promise26Holds();
+        promise26AllElseAsItIs();
         promise27Deputies();
         promise27None();
         promise27OfLikeOnes();
@@ -29,6 +30,7 @@ public final class StoppedEdgeTest {
         promise29Numbers();
         promise29SeedsAndTimes();
         promise29Sittings();
+        promise29FreeOnesAlone();
         edge.finish();
     }
 
@@ -210,6 +212,20 @@ public final class StoppedEdgeTest {
             x -> x.holds(0, 0), 0);
     }
 
+    /** One who loves laws 1 and 3, hates law 2, is asked for law 0: the others count as he holds them. */
+    private static void promise26AllElseAsItIs() {
+        // The bundle, then what holds if he stopped it. Not stopped: what is left of 7.
+        int[][] stopped = {{11, 0}, {15, 2}, {7, 6}, {5, 7}, {14, 0}, {6, 7}, {1, 2}};
+        for (int[] s : stopped) {
+            for (int law0 = 0; law0 < 4; law0++) {
+                Supplier<VetoHouse> house = one(1, PLAIN, 10 | law0 & 1, 4 | law0 >> 1);
+                String what = "26 all else as it is, law 0 held as " + law0 + ", bundle " + s[0];
+                edge.tells(what + " stopped", and(house, x -> x.note(0, s[0], 1, 1)), x -> x.holds(0, 0), s[1]);
+                edge.tells(what + " not stopped", and(house, x -> x.note(0, s[0], 1, 0)), x -> x.holds(0, 0), 7 - s[1]);
+            }
+        }
+    }
+
     private static void promise27Deputies() {
         for (int wrong : new int[] {-1, 3, 6, LEAST, GREATEST}) {
             edge.bad("27 tryNext(" + wrong + ") of three", Houses::ordinary, x -> x.tryNext(wrong));
@@ -357,5 +373,20 @@ public final class StoppedEdgeTest {
         edge.tells("29 day 0 by a kept one", one(0, KEPT, 255, 0), x -> x.diets(71, 1), 0);
         edge.tells("29 day 99 by a late one", one(99, LATE, 0, 255), x -> x.diets(71, 1), 8);
         edge.tells("29 day 98 by a late one", one(98, LATE, 0, 255), x -> x.diets(71, 1), 0);
+    }
+
+    /** By seed 1 the first laws are 1, 2, 6, 7 (X is 1103527590): what is not free then is no part of what is moved. */
+    private static void promise29FreeOnesAlone() {
+        Supplier<VetoHouse> force = and(and(Houses::fresh, x -> x.moves(2)), x -> x.end());
+        edge.tells("29 hated, in force: not moved", and(force, x -> x.deputy(PLAIN, 0, 2, 0)), x -> x.diets(1, 1), 4);
+        Supplier<VetoHouse> passed = and(Houses::fresh, x -> x.moves(2));
+        edge.tells("29 hated, passed: not moved", and(passed, x -> x.deputy(PLAIN, 0, 2, 0)), x -> x.diets(1, 1), 4);
+        Supplier<VetoHouse> two = and(and(Houses::fresh, x -> x.moves(6)), x -> x.end());
+        edge.tells("29 loved, in force: no help", and(two, x -> x.deputy(PLAIN, 6, 64, 0)), x -> x.diets(1, 1), 2);
+        edge.tells("29 loved, free: they help", and(Houses::fresh, x -> x.deputy(PLAIN, 6, 64, 0)),
+            x -> x.diets(1, 1), 4);
+        // By seed 0 laws 3 and 7, hated, are in force from day 1, an odd one, on; on day 4 they come again, with law 1.
+        edge.tells("29 put in force by a diet, then not moved", one(0, LATE, 0, 136), x -> x.diets(0, 4), 7);
+        edge.tells("29 put in force by a diet, then not moved", one(0, LATE, 0, 136), x -> x.diets(0, 5), 8);
     }
 }

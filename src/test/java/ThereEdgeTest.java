@@ -14,6 +14,7 @@ public final class ThereEdgeTest {
         promise31ImagesOfTheLeastAndTheMost();
         promise32Images();
         promise32WhatIsKept();
+        promise32AllThatMayBeUndone();
         promise32Notes();
         promise32WhatIsNotKept();
         promise33Status();
@@ -144,6 +145,57 @@ public final class ThereEdgeTest {
         x.house(0);
         x.from(0);
         edge.is("32 an image of an image", x.count(4), 70);
+    }
+
+    /** Eight of each image, each unlike the others, and other ones done in between. */
+    private static void promise32AllThatMayBeUndone() {
+        VetoHouse x = new VetoHouse();
+        long[][] ahead = new long[2][];
+        for (int image = 0; image < 2; image++) {
+            x.house(10 + 30 * image);
+            x.deputy(0, 0, 0, 3);
+            x.deputy(0, 0, 0, 5);
+            ahead[image] = eightThings(x, image);
+            x.image(image);
+        }
+        for (int times = 0; times < 2; times++) {
+            for (int image = 0; image < 2; image++) {
+                edge.is("32 from(" + image + ")", x.from(image), 1);
+                edge.is("32 eight may be undone", x.count(6), 8);
+                for (int i = 7; i >= 0; i--) {
+                    edge.is("32 undo of image " + image, x.undo(), ahead[image][2 * i]);
+                    edge.is("32 as ahead of thing " + i + " of image " + image, seen(x), ahead[image][2 * i + 1]);
+                }
+                edge.is("32 no more", x.undo(), -3);
+            }
+        }
+    }
+
+    /** Does them; the day and what is seen ahead of each. */
+    private static long[] eightThings(VetoHouse x, int turn) {
+        long[] ahead = new long[16];
+        for (int i = 0; i < 8; i++) {
+            ahead[2 * i] = x.count(1);
+            ahead[2 * i + 1] = seen(x);
+            switch ((i + 2 * turn) % 4) {
+                case 0 -> x.moves(1 << i);
+                case 1 -> x.buy((i / 4 + turn) % 2);
+                case 2 -> x.lock((i / 4 + turn) % 2);
+                default -> x.end();
+            }
+        }
+        return ahead;
+    }
+
+    /** All that undo gives back, in one number. */
+    private static long seen(VetoHouse x) {
+        long h = 0;
+        for (int what : new int[] {0, 1}) {
+            h = 1000 * h + x.acts(what);
+            h = 10 * h + x.of(what, 5);
+            h = 10 * h + x.of(what, 6);
+        }
+        return 1000 * (1000 * h + x.count(1)) + x.count(4);
     }
 
     /** Each field of each note, which are otherwise behind it. */
